@@ -1,5 +1,6 @@
 import java.util.ArrayList;
 import java.util.List;
+import java.util.TreeSet;
 
 /** Many programs, each asked of the class and of the naive machines: all answers agree. */
 public final class NaiveTest {
@@ -9,6 +10,7 @@ public final class NaiveTest {
     private static long seed = 20261115;
     private static int crowdedKinds = 0;
     private static int manyOutcomes = 0;
+    private static int differences = 0;
 
     /** A fixed row of numbers, so that a failure comes again. */
     private static int pick(int below) {
@@ -27,12 +29,17 @@ public final class NaiveTest {
                 x.clear();
             }
             List<List<int[]>> threads = program(x, 2 + pick(12));
+            String told = "program " + n + ": " + told(threads);
+            Naive[] naive = new Naive[4];
             for (int kind = 0; kind < 4; kind++) {
-                compare(due, x, kind, new Naive(kind, threads, LIMIT), "program " + n + ": " + told(threads) + "kind " + kind + ": ");
+                naive[kind] = new Naive(kind, threads, LIMIT);
+                compare(due, x, kind, naive[kind], told + "kind " + kind + ": ");
             }
+            compareKinds(due, x, naive, told);
         }
         due.that("some kinds had no room", crowdedKinds > 0);
         due.that("some kinds had more than hundred outcomes", manyOutcomes > 0);
+        due.that("some kinds differed", differences > 100);
         due.end();
     }
 
@@ -64,6 +71,27 @@ public final class NaiveTest {
             }
         }
         return text.toString();
+    }
+
+    private static void compareKinds(Due due, OrderMachines x, Naive[] naive, String told) {
+        for (int kind = 0; kind < 4; kind++) {
+            for (int other = 0; other < 4; other++) {
+                int a = kind;
+                int b = other;
+                if (naive[a].crowded || naive[b].crowded) {
+                    due.thrown(told + "differs " + a + ", " + b, UnsupportedOperationException.class, () -> x.differs(a, b));
+                    continue;
+                }
+                TreeSet<Long> one = new TreeSet<>(naive[a].outcomes.keySet());
+                TreeSet<Long> two = new TreeSet<>(naive[b].outcomes.keySet());
+                one.removeAll(naive[b].outcomes.keySet());
+                two.removeAll(naive[a].outcomes.keySet());
+                one.addAll(two);
+                long least = one.isEmpty() ? -1 : one.first();
+                due.answer(told + "differs " + a + ", " + b, least, () -> x.differs(a, b));
+                differences += least < 0 ? 0 : 1;
+            }
+        }
     }
 
     private static void compare(Due due, OrderMachines x, int kind, Naive naive, String told) {
