@@ -235,11 +235,14 @@ public final class OrderMachines {
     private static final class Machine {
         private static final long OUTCOME_MASK = (1L << 40) - 1;
         private static final int CUT_MASK = CUTS_IN_ALL - 1;
-        private static final int DONE_BITS = 40;
+        private static final int DONE_SHIFT = 40;
+        private static final int DONE_MASK = 7;
+        private static final int DIGIT_MASK = BASE - 1;
         private static final int ENTRIES = 3;
         private static final int ENTRY_BITS = 5;
         private static final int ENTRY_MASK = 31;
         private static final int ENTRY_THERE = 4;
+        private static final int FULL_SHIFT = (ENTRIES - 1) * ENTRY_BITS;
         private static final int BUFFER_BITS = ENTRIES * ENTRY_BITS;
         private static final int BUFFER_MASK = (1 << BUFFER_BITS) - 1;
         private static final int FIRST_DRAIN = 4;
@@ -276,12 +279,12 @@ public final class OrderMachines {
         }
 
         int cutHere() {
-            return (int) memory & CUT_MASK;
+            return bitsAt(0, CUT_MASK);
         }
 
         boolean isAtEnd() {
             for (int thread = 0; thread < THREADS; thread++) {
-                if (doneBy(thread) < program.lengthOf(thread)) {
+                if (bitsAt(doneShift(thread), DONE_MASK) < program.lengthOf(thread)) {
                     return false;
                 }
             }
@@ -303,7 +306,7 @@ public final class OrderMachines {
         }
 
         private boolean act(int thread) {
-            int done = doneBy(thread);
+            int done = bitsAt(doneShift(thread), DONE_MASK);
             if (done >= program.lengthOf(thread)) {
                 return false;
             }
@@ -315,9 +318,15 @@ public final class OrderMachines {
             nextMemory = memory + (1L << doneShift(thread));
             switch (code / (BASE * BASE)) {
                 case WRITE:
-                    return write(buffer, entries, place, n);
+                    if (kind == KIND_PLAIN) {
+                        setDigit(placeShift(place), n);
+                    } else {
+                        setEntries(buffer, withNewest(entries, (ENTRY_THERE + place) * BASE + n));
+                    }
+                    return entries >> FULL_SHIFT == 0;
                 case READ:
-                    setDigit(registerShift(thread, n), read(entries, place));
+                    int number = newestFor(entries, place);
+                    setDigit(registerShift(thread, n), number == NONE ? bitsAt(placeShift(place), DIGIT_MASK) : number);
                     return true;
                 case FENCE:
                     return entries == 0;
@@ -327,29 +336,24 @@ public final class OrderMachines {
             }
         }
 
-        private boolean write(int buffer, int entries, int place, int n) {
-            if (kind == KIND_PLAIN) {
-                setDigit(placeShift(place), n);
-                return true;
-            }
+        /** Full entries stay as they are. */
+        private static int withNewest(int entries, int entry) {
             for (int i = 0; i < ENTRIES; i++) {
                 if (entries >> (i * ENTRY_BITS) == 0) {
-                    int entry = (ENTRY_THERE + place) * BASE + n;
-                    setEntries(buffer, entries | (entry << (i * ENTRY_BITS)));
-                    return true;
+                    return entries | (entry << (i * ENTRY_BITS));
                 }
             }
-            return false;
+            return entries;
         }
 
-        private int read(int entries, int place) {
+        private static int newestFor(int entries, int place) {
             for (int i = ENTRIES - 1; i >= 0; i--) {
                 int entry = (entries >> (i * ENTRY_BITS)) & ENTRY_MASK;
                 if (entry / BASE == ENTRY_THERE + place) {
                     return entry % BASE;
                 }
             }
-            return (int) (memory >>> placeShift(place)) & (BASE - 1);
+            return NONE;
         }
 
         /** The oldest entry for the place goes to it; place NONE takes the oldest of all. */
@@ -372,8 +376,8 @@ public final class OrderMachines {
             return false;
         }
 
-        private int doneBy(int thread) {
-            return (int) (memory >>> doneShift(thread)) & 7;
+        private int bitsAt(int shift, int mask) {
+            return (int) (memory >>> shift) & mask;
         }
 
         private int entriesOf(int buffer) {
@@ -386,18 +390,18 @@ public final class OrderMachines {
         }
 
         private void setDigit(int shift, int digit) {
-            nextMemory = (nextMemory & ~((BASE - 1L) << shift)) | ((long) digit << shift);
+            nextMemory = (nextMemory & ~((long) DIGIT_MASK << shift)) | ((long) digit << shift);
         }
 
         private static int doneShift(int thread) {
-            return DONE_BITS + 3 * thread;
+            return DONE_SHIFT + 3 * thread;
         }
 
         private static int registerShift(int thread, int register) {
             return 2 * (19 - BASE * thread - register);
         }
 
-        private static int placeShift(int place) {
+        static int placeShift(int place) {
             return 2 * (3 - place);
         }
     }
@@ -667,7 +671,7 @@ public final class OrderMachines {
             int fewest = NONE;
             for (int cut = 0; cut < CUTS_IN_ALL; cut++) {
                 int steps = cutSteps[cut];
-                if (steps != NONE && ((cut >> Machine.placeShift(place)) & (BASE - 1)) == number) {
+                if (steps != NONE && ((cut >> Machine.placeShift(place)) & Machine.DIGIT_MASK) == number) {
                     fewest = fewest == NONE ? steps : Math.min(fewest, steps);
                 }
             }

@@ -314,7 +314,11 @@ public final class PromisesTest {
         due.answer("differs of message 1, 2", 1073741904L, () -> y.differs(1, 2));
         due.answer("differs of message 2, 1", 1073741904L, () -> y.differs(2, 1));
         due.answer("differs of message 0, 1", -1, () -> y.differs(0, 1));
-        // The greatest outcome of the one is what the other has not.
+        // What the one has not is the greatest of the other: register 0 of thread 1 is 1, yet its write comes last.
+        OrderMachines last = Programs.made("0301 0000 0010 1011 1100");
+        long greatest = Programs.outcome(Programs.register(1, 0), 1, Programs.place(1), 1);
+        due.answer("differs by the greatest 0, 1", greatest, () -> last.differs(0, 1));
+        due.answer("differs by the greatest 1, 0", greatest, () -> last.differs(1, 0));
         OrderMachines z = Programs.made("0002 0011 1012 1001 2111 2100");
         long least = leastDifference(z, 0, 1);
         due.answer("differs by looking", least, () -> z.differs(0, 1));
@@ -373,8 +377,8 @@ public final class PromisesTest {
     }
 
     private static void promise14Count() {
-        OrderMachines x = Programs.made("1001 1011 1021 1110 1200 3301 3302 3100 3100 3200");
-        int[] wants = {10, 2, 3, 3, 2, 2};
+        OrderMachines x = Programs.made("1001 1011 1021 1110 1100 3301 3302 3100 3100 3200");
+        int[] wants = {10, 2, 3, 4, 1, 2};
         for (int what = 0; what < 6; what++) {
             int w = what;
             due.answer("count " + what, wants[what], () -> x.count(w));
