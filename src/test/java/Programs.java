@@ -3,6 +3,21 @@ import java.util.List;
 
 /** Programs as texts: an action is its four digits thread, what, place, n. */
 final class Programs {
+    /** Of each kind a program with exactly 12000 states. */
+    static final String[] FULL = {
+        "1101 0001 2302 3103 3103 0001 2100 1001 2101 2200 1101 2001 3102 3001 0002",
+        "0001 0001 0001 1011 1011 1011 2021 2021 2021 3200 3200 3031 3031 3031",
+        "0002 0003 0013 0013 3000 3321 3112 1200 3021 1023 0101 2010 3002",
+        "1001 2001 3002 3301 0101 1002 2000 1301 2003 2000 0100 2001",
+    };
+    /** Of each kind a program with one state more than there is room for. */
+    static final String[] OVER = {
+        "1001 3003 1003 0103 2101 1001 2002 3003 0200 2102 2200 2003 1003 0100",
+        "2002 0110 3001 2012 3000 0113 1011 1300 2002 0311 2101 0001",
+        "0030 1000 0113 3012 0021 0031 3123 1012 0003 2032 2200 2200",
+        "0001 1102 1001 2102 3003 2302 1000 1100 2001 0002",
+    };
+
     private Programs() {
     }
 
