@@ -346,6 +346,12 @@ public final class TermsTest {
                     "row" + k + " 0 0 = unsupported", "cuts" + k + " = unsupported", "cut" + k + " 0 = unsupported",
                     "allows" + k + " 0 = unsupported", "differs" + k + k + " = unsupported", "soonest" + k + " 0 0 = unsupported",
                     "stuck" + k + " = unsupported", "states" + k + " = unsupported");
+            // What an earlier way through left in the object's rows may not pass for a state that is found.
+            terms.holds("with more than 12000 there is no room: 12000 once more, kind" + k, "program " + Programs.FULL[kind],
+                    "states" + k + " = 12000", "clear = done", "program " + Programs.FULL[kind], "states" + k + " = 12000",
+                    "clear = done", "program 0001 0001 0001 1011 1011 1011 2021 2021 2021", "states 1 = 1000", "states 2 = 1000",
+                    "clear = done", "program 0001 0001 0001 1011 1011 1011 2021 2021 2021", "states 2 = 1000", "states 1 = 1000",
+                    "clear = done", "program " + Programs.FULL[kind], "states" + k + " = 12000");
             terms.holds("with more than 12000 there is no room: room again, kind" + k, "program " + Programs.OVER[kind],
                     "states" + k + " = unsupported", "clear = done", "program " + Programs.FULL[kind], "states" + k + " = 12000",
                     "clear = done", "program " + Programs.OVER[kind], "states" + k + " = unsupported", "clear = done",
