@@ -14,25 +14,27 @@ final class Due {
 
     void answer(String call, long want, Call made) {
         asked++;
-        String got;
-        try {
-            got = Long.toString(made.go());
-        } catch (RuntimeException e) {
-            got = "throws." + e.getClass().getSimpleName();
-        }
-        tell(call, Long.toString(want), got);
+        tell(call, Long.toString(want), told(made));
     }
 
     /** Exactly this class: the machine's own kinds of IndexOutOfBoundsException are not as due. */
     void thrown(String call, Class<? extends RuntimeException> want, Call made) {
         asked++;
-        String got;
+        tell(call, "throws." + want.getSimpleName(), told(made));
+    }
+
+    /** The same answer, or an exception of the same class. */
+    void same(String call, Call want, Call made) {
+        asked++;
+        tell(call, told(want), told(made));
+    }
+
+    private static String told(Call made) {
         try {
-            got = Long.toString(made.go());
+            return Long.toString(made.go());
         } catch (RuntimeException e) {
-            got = "throws." + e.getClass().getSimpleName();
+            return "throws." + e.getClass().getSimpleName();
         }
-        tell(call, "throws." + want.getSimpleName(), got);
     }
 
     void that(String what, boolean holds) {

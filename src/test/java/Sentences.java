@@ -35,6 +35,10 @@ final class Sentences {
         }
     }
 
+    void same(String what, String want, String got) {
+        due.that(what + ": " + got + " <-> " + want, want.equals(got));
+    }
+
     void end() {
         due.end();
     }
