@@ -304,6 +304,7 @@ public final class DocumentTest {
                 + " kind has and the other one has not (either way), or NONE.",
                 STORES, "differs 0 1 = 80", "differs 1 0 = 80", "differs 1 2 = -1", "differs 2 3 = 80", "differs 0 3 = -1",
                 "new", CROSSED, "differs 1 2 = 80", "differs 0 1 = -1", "new", LOADS, "differs any any = -1",
+                "new", "program 0301 0000 0010 1011 1100", "differs 0 1 = " + outcome("r10=1 p1=1"), "differs 1 0 = " + outcome("r10=1 p1=1"),
                 "new", WITNESSES, "differs 3 1 = " + outcome("r10=1 r30=1 p0=1 p1=1"), "differs 1 2 = -1");
         sentence("`int soonest(int kind, int p, int v) throws IllegalArgumentException, UnsupportedOperationException`: How many steps the row to"
                 + " a place's number needs at least: the fewest steps after which place p is v in a state; NONE when it never is.",
